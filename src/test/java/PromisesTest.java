@@ -1,0 +1,932 @@
+import java.util.NoSuchElementException;
+
+/** Tests of each promise of ../shared/DOC.md: ordinary inputs, edges and wrong inputs. */
+public final class PromisesTest {
+    private interface Call {
+        double answer();
+    }
+
+    private static final Class<?> REFUSED = UnsupportedOperationException.class;
+    private static final Class<?> OUT_OF_BOUNDS = IndexOutOfBoundsException.class;
+    private static final Class<?> BAD_ARGUMENT = IllegalArgumentException.class;
+    private static final Class<?> NO_ELEMENT = NoSuchElementException.class;
+    private static final Class<?> BAD_STATE = IllegalStateException.class;
+    private static final Class<?> ARITHMETIC = ArithmeticException.class;
+
+    private static int wrong = 0;
+    private static int checked = 0;
+    private static int promise = 0;
+
+    private static void complain(String what) {
+        wrong++;
+        StackTraceElement[] trace = new Throwable().getStackTrace();
+        String where = "";
+        for (StackTraceElement element : trace) {
+            if (element.getMethodName().startsWith("promise")) {
+                where = " (line " + element.getLineNumber() + ")";
+                break;
+            }
+        }
+        System.out.println("promise " + promise + where + ": " + what);
+    }
+
+    private static void due(double want, Call call) {
+        checked++;
+        try {
+            double got = call.answer();
+            if (got != want) {
+                complain("answered " + got + ", due is " + want);
+            }
+        } catch (RuntimeException e) {
+            complain("threw " + e + ", due is " + want);
+        }
+    }
+
+    private static void dueThrow(Class<?> want, Call call) {
+        checked++;
+        try {
+            double got = call.answer();
+            complain("answered " + got + ", due is " + want.getName());
+        } catch (RuntimeException e) {
+            if (e.getClass() != want) {
+                complain("threw " + e + ", due is " + want.getName());
+            }
+        }
+    }
+
+    /** The call is refused for a reason with a detail, and nothing that can be undone is changed by it. */
+    private static void dueRefusal(FloodStones x, int reason, int detail, Call call) {
+        int changes = x.account(10);
+        dueThrow(REFUSED, call);
+        due(reason, () -> x.reason(0));
+        due(detail, () -> x.reason(1));
+        due(0, () -> x.reason(2));
+        due(changes, () -> x.account(10));
+    }
+
+    private static void type(FloodStones x, String text) {
+        for (int i = 0; i < text.length(); i++) {
+            x.append(text.charAt(i));
+        }
+    }
+
+    private static void dueFault(FloodStones x, String text, int position) {
+        type(x, text);
+        dueThrow(BAD_ARGUMENT, x::commands);
+        due(position, x::faultPosition);
+        due(0, () -> x.account(11));
+    }
+
+    private static void dueCommands(FloodStones x, String text, int count) {
+        type(x, text);
+        due(count, x::commands);
+        due(-1, x::faultPosition);
+        due(0, () -> x.account(11));
+    }
+
+    private static void dueRefusedCommand(FloodStones x, String text, int reason, int detail, int index) {
+        type(x, text);
+        dueThrow(REFUSED, x::commands);
+        due(-1, x::faultPosition);
+        due(0, () -> x.account(11));
+        due(reason, () -> x.reason(0));
+        due(detail, () -> x.reason(1));
+        due(index, () -> x.reason(2));
+    }
+
+    private static String lineOf(FloodStones x, int stone) {
+        int length = x.line(stone);
+        StringBuilder text = new StringBuilder();
+        for (int i = 0; i < length; i++) {
+            text.append(x.character(i));
+        }
+        dueThrow(OUT_OF_BOUNDS, () -> x.character(length));
+        return text.toString();
+    }
+
+    private static void dueLine(FloodStones x, int stone, String want) {
+        checked++;
+        String got = lineOf(x, stone);
+        if (!got.equals(want)) {
+            complain("the line is '" + got + "', due is '" + want + "'");
+        }
+    }
+
+    /** A river with the stones 0 and 1, the floods 0 to 2 and the chisels 0 and 1. */
+    private static FloodStones river() {
+        FloodStones x = new FloodStones();
+        x.stone(0, 0, 1);
+        x.stone(14, 2, 5);
+        x.flood(80, 40, 3);
+        x.flood(60, 20, 0);
+        x.flood(90, 60, 1);
+        x.chisel();
+        x.chisel();
+        return x;
+    }
+
+    private static void promise1() {
+        promise = 1;
+        FloodStones x = new FloodStones();
+        due(100, () -> x.account(0));
+        for (int what = 1; what <= 11; what++) {
+            int asked = what;
+            due(0, () -> x.account(asked));
+        }
+        due(-1, x::faultPosition);
+        due(0, () -> x.shift(100));
+        dueThrow(NO_ELEMENT, () -> x.reason(0));
+        dueThrow(BAD_STATE, x::undo);
+        dueThrow(BAD_STATE, x::restore);
+        dueThrow(OUT_OF_BOUNDS, () -> x.character(0));
+        dueThrow(ARITHMETIC, x::meanEdge);
+    }
+
+    private static void promise2() {
+        promise = 2;
+        FloodStones x = new FloodStones();
+        dueRefusal(x, 1, 0, () -> x.stone(-1, 0, 1));
+        dueRefusal(x, 1, 0, () -> x.stone(51, 0, 1));
+        dueRefusal(x, 1, 0, () -> x.stone(0, -1, 1));
+        dueRefusal(x, 1, 0, () -> x.stone(0, 31, 1));
+        dueRefusal(x, 1, 0, () -> x.stone(0, 0, 0));
+        dueRefusal(x, 1, 0, () -> x.stone(0, 0, 6));
+        due(0, () -> x.stone(0, 0, 1));
+        due(1, () -> x.stone(50, 30, 5));
+        for (int stone = 2; stone < 6; stone++) {
+            due(stone, () -> x.stone(7, 8, 3));
+        }
+        dueRefusal(x, 2, 6, () -> x.stone(0, 0, 1));
+        dueRefusal(x, 1, 0, () -> x.stone(0, 0, 9));
+        due(6, () -> x.account(1));
+        due(50, () -> x.stoneOf(1, 0));
+        due(30, () -> x.stoneOf(1, 1));
+        due(5, () -> x.stoneOf(1, 2));
+    }
+
+    private static void promise3() {
+        promise = 3;
+        FloodStones x = new FloodStones();
+        dueRefusal(x, 1, 0, () -> x.flood(-1, 1, 0));
+        dueRefusal(x, 1, 0, () -> x.flood(101, 1, 0));
+        dueRefusal(x, 1, 0, () -> x.flood(0, 0, 0));
+        dueRefusal(x, 1, 0, () -> x.flood(0, 100, 0));
+        dueRefusal(x, 1, 0, () -> x.flood(0, 1, -1));
+        dueRefusal(x, 1, 0, () -> x.flood(0, 1, 100));
+        due(0, () -> x.flood(0, 99, 99));
+        due(1, () -> x.flood(100, 1, 0));
+        dueRefusal(x, 4, 1, () -> x.flood(100, 5, 5));
+        dueRefusal(x, 1, 0, () -> x.flood(100, 0, 5));
+        x.years(1);
+        due(2, () -> x.flood(101, 1, 0));
+        for (int flood = 3; flood < 12; flood++) {
+            int told = flood;
+            due(told, () -> x.flood(told, 50, 1));
+        }
+        dueRefusal(x, 2, 12, () -> x.flood(50, 1, 0));
+        dueRefusal(x, 4, 2, () -> x.flood(101, 1, 0));
+        dueRefusal(x, 1, 0, () -> x.flood(102, 1, 0));
+        due(12, () -> x.account(2));
+    }
+
+    private static void promise4() {
+        promise = 4;
+        FloodStones x = new FloodStones();
+        dueRefusal(x, 1, 0, () -> x.epoch(-1, 0));
+        dueRefusal(x, 1, 0, () -> x.epoch(1000, 0));
+        dueRefusal(x, 1, 0, () -> x.epoch(0, 10));
+        dueRefusal(x, 1, 0, () -> x.epoch(0, -10));
+        due(1, () -> x.epoch(999, 9));
+        due(2, () -> x.epoch(0, -9));
+        due(2, () -> x.epoch(0, -8));
+        due(3, () -> x.epoch(100, 4));
+        due(4, () -> x.epoch(50, 3));
+        dueRefusal(x, 2, 4, () -> x.epoch(51, 3));
+        dueRefusal(x, 1, 0, () -> x.epoch(51, 99));
+        due(4, () -> x.epoch(50, 5));
+        due(5, () -> x.shift(50));
+        due(-8, () -> x.shift(49));
+        due(4, () -> x.account(3));
+    }
+
+    private static void promise5() {
+        promise = 5;
+        FloodStones x = new FloodStones();
+        due(0, x::chisel);
+        due(1, x::chisel);
+        due(2, x::chisel);
+        dueRefusal(x, 2, 3, x::chisel);
+        due(20, () -> x.edge(2));
+        due(3, () -> x.account(4));
+    }
+
+    private static void promise6() {
+        promise = 6;
+        FloodStones x = river();
+        dueRefusal(x, 3, -1, () -> x.cut(-1, 9, 9));
+        dueRefusal(x, 3, 2, () -> x.cut(2, 9, 9));
+        dueRefusal(x, 3, 3, () -> x.cut(0, 3, 9));
+        dueRefusal(x, 3, 2, () -> x.cut(0, 0, 2));
+        due(40, () -> x.cut(0, 0, 0));
+        due(11, () -> x.markOf(0, 0, 1));
+        due(100, () -> x.markOf(0, 0, 2));
+        due(19, () -> x.edge(0));
+        dueRefusal(x, 5, 40, () -> x.cut(0, 0, 1));
+        due(36, () -> x.cut(1, 0, 0));
+        due(10, () -> x.markOf(1, 0, 1));
+        due(14, () -> x.edge(0));
+        due(2, () -> x.account(6));
+    }
+
+    private static void promise6Reach() {
+        promise = 6;
+        FloodStones x = new FloodStones();
+        x.stone(50, 30, 1);
+        x.chisel();
+        x.flood(1, 40, 0);
+        x.flood(2, 1, 0);
+        x.flood(3, 41, 0);
+        dueRefusal(x, 6, 1, () -> x.cut(0, 0, 0));
+        dueRefusal(x, 6, 40, () -> x.cut(0, 1, 0));
+        x.epoch(0, -2);
+        dueRefusal(x, 7, -1, () -> x.cut(0, 2, 0));
+        x.epoch(0, -1);
+        due(0, () -> x.cut(0, 2, 0));
+        x.stone(0, 0, 1);
+        x.flood(4, 99, 0);
+        x.epoch(0, 1);
+        dueRefusal(x, 7, 100, () -> x.cut(1, 3, 0));
+        x.epoch(0, 0);
+        due(99, () -> x.cut(1, 3, 0));
+    }
+
+    private static void promise6Blunt() {
+        promise = 6;
+        FloodStones x = new FloodStones();
+        x.stone(0, 0, 4);
+        x.stone(0, 0, 5);
+        x.chisel();
+        for (int flood = 0; flood < 8; flood++) {
+            x.flood(flood, 10 + flood, 0);
+        }
+        x.flood(20, 10, 0);
+        for (int flood = 0; flood < 4; flood++) {
+            x.cut(0, flood, 0);
+        }
+        due(4, () -> x.edge(0));
+        dueRefusal(x, 8, 4, () -> x.cut(1, 0, 0));
+        due(14, () -> x.cut(0, 4, 0));
+        due(3, () -> x.markOf(0, 4, 1));
+        due(0, () -> x.edge(0));
+        dueRefusal(x, 8, 0, () -> x.cut(0, 8, 0));
+        x.sharpen(0);
+        dueRefusal(x, 9, 0, () -> x.cut(0, 8, 0));
+        due(15, () -> x.cut(0, 5, 0));
+        dueRefusal(x, 2, 6, () -> x.cut(0, 6, 0));
+        dueRefusal(x, 9, 0, () -> x.cut(0, 8, 0));
+        due(6, () -> x.stoneOf(0, 4));
+    }
+
+    private static void promise7() {
+        promise = 7;
+        FloodStones x = river();
+        dueRefusal(x, 3, 2, () -> x.efface(2, 9));
+        dueRefusal(x, 3, -7, () -> x.efface(0, -7));
+        dueRefusal(x, 10, 2, () -> x.efface(0, 2));
+        x.cut(0, 2, 0);
+        x.cut(0, 1, 0);
+        due(60, () -> x.efface(0, 2));
+        dueRefusal(x, 10, 2, () -> x.efface(0, 2));
+        due(1, () -> x.account(5));
+        due(2, () -> x.account(6));
+        due(1, () -> x.account(7));
+        due(0, () -> x.account(8));
+        due(60, () -> x.cut(0, 2, 0));
+    }
+
+    private static void promise8() {
+        promise = 8;
+        FloodStones x = river();
+        dueRefusal(x, 3, 2, () -> x.sharpen(2));
+        dueRefusal(x, 3, -1, () -> x.sharpen(-1));
+        x.cut(1, 0, 0);
+        due(15, () -> x.sharpen(0));
+        due(20, () -> x.edge(0));
+        due(20, () -> x.sharpen(1));
+        due(8, () -> x.account(10));
+        due(7, x::undo);
+        due(6, x::undo);
+        due(15, () -> x.edge(0));
+    }
+
+    private static void promise9() {
+        promise = 9;
+        FloodStones x = river();
+        dueRefusal(x, 3, 2, () -> x.check(2));
+        dueRefusal(x, 3, -1, () -> x.check(-1));
+        x.years(2);
+        due(1, () -> x.check(0));
+        due(0, () -> x.check(0));
+        due(0, () -> x.stoneOf(0, 3));
+        due(1, () -> x.stoneOf(1, 3));
+    }
+
+    private static void promise10() {
+        promise = 10;
+        FloodStones x = river();
+        dueRefusal(x, 3, 3, () -> x.witness(3, 0));
+        dueRefusal(x, 3, -1, () -> x.witness(-1, 1));
+        dueRefusal(x, 1, 0, () -> x.witness(0, 0));
+        dueRefusal(x, 1, 0, () -> x.witness(0, 10));
+        due(4, () -> x.witness(0, 1));
+        due(13, () -> x.witness(0, 9));
+        x.flood(1, 1, 91);
+        dueRefusal(x, 2, 99, () -> x.witness(3, 9));
+        dueRefusal(x, 1, 0, () -> x.witness(3, 10));
+        due(99, () -> x.witness(3, 8));
+        dueRefusal(x, 2, 99, () -> x.witness(3, 1));
+        due(99, () -> x.floodOf(3, 2));
+    }
+
+    private static void promise11() {
+        promise = 11;
+        FloodStones x = river();
+        dueRefusal(x, 1, 0, () -> x.years(0));
+        dueRefusal(x, 1, 0, () -> x.years(-1));
+        dueRefusal(x, 1, 0, () -> x.years(61));
+        x.cut(0, 0, 0);
+        x.cut(0, 1, 0);
+        due(0, () -> x.years(1));
+        due(0, () -> x.stoneOf(0, 3));
+        due(0, () -> x.years(1));
+        due(1, () -> x.stoneOf(0, 3));
+        due(0, () -> x.years(2));
+        due(11, () -> x.markOf(0, 0, 1));
+        due(0, () -> x.years(1));
+        due(10, () -> x.markOf(0, 0, 1));
+        due(9, () -> x.markOf(0, 1, 1));
+        due(0, () -> x.years(44));
+        due(1, () -> x.markOf(0, 1, 1));
+        due(1, () -> x.years(1));
+        dueThrow(NO_ELEMENT, () -> x.markOf(0, 1, 0));
+        due(0, () -> x.years(4));
+        due(1, () -> x.years(60));
+        due(214, () -> x.account(0));
+        due(2, () -> x.account(8));
+        due(0, () -> x.account(5));
+        due(9, () -> x.stoneOf(0, 3));
+    }
+
+    private static void promise12() {
+        promise = 12;
+        FloodStones x = river();
+        dueThrow(OUT_OF_BOUNDS, () -> x.stoneOf(2, 9));
+        dueThrow(OUT_OF_BOUNDS, () -> x.stoneOf(-1, 0));
+        dueThrow(BAD_ARGUMENT, () -> x.stoneOf(1, 6));
+        dueThrow(BAD_ARGUMENT, () -> x.stoneOf(1, -1));
+        x.cut(1, 2, 0);
+        x.years(3);
+        x.epoch(0, 9);
+        int[] want = {14, 2, 5, 1, 1, 0};
+        for (int what = 0; what < want.length; what++) {
+            int asked = what;
+            due(want[asked], () -> x.stoneOf(1, asked));
+        }
+        due(0, () -> x.stoneOf(0, 4));
+    }
+
+    /** Three marks, of which those for the floods 0 and 1 and those for 1 and 2 come into doubt. */
+    private static FloodStones doubtful() {
+        FloodStones x = new FloodStones();
+        x.stone(0, 0, 1);
+        x.chisel();
+        x.flood(10, 30, 3);
+        x.flood(20, 31, 1);
+        x.flood(30, 31, 0);
+        x.cut(0, 0, 0);
+        x.years(3);
+        x.cut(0, 1, 0);
+        x.check(0);
+        x.cut(0, 2, 0);
+        return x;
+    }
+
+    private static void promise13() {
+        promise = 13;
+        FloodStones x = doubtful();
+        dueThrow(OUT_OF_BOUNDS, () -> x.floodOf(3, 9));
+        dueThrow(OUT_OF_BOUNDS, () -> x.floodOf(-1, 0));
+        dueThrow(BAD_ARGUMENT, () -> x.floodOf(0, 6));
+        dueThrow(BAD_ARGUMENT, () -> x.floodOf(0, -1));
+        due(20, () -> x.floodOf(1, 0));
+        due(31, () -> x.floodOf(1, 1));
+        due(1, () -> x.floodOf(1, 2));
+        due(1, () -> x.floodOf(1, 3));
+        due(1, () -> x.floodOf(1, 4));
+        due(5, () -> x.floodOf(1, 5));
+        due(0, () -> x.floodOf(0, 4));
+        due(30, () -> x.floodOf(0, 5));
+        due(0, () -> x.floodOf(2, 5));
+        x.epoch(101, 2);
+        due(2, () -> x.floodOf(0, 4));
+        due(20, () -> x.floodOf(0, 5));
+        due(2, () -> x.floodOf(1, 4));
+        due(0, () -> x.floodOf(1, 5));
+        due(2, () -> x.floodOf(2, 4));
+        due(3, () -> x.stoneOf(0, 5));
+    }
+
+    private static void promise14And15() {
+        promise = 14;
+        FloodStones x = river();
+        due(0, () -> x.floodIn(80));
+        due(1, () -> x.floodIn(60));
+        dueThrow(NO_ELEMENT, () -> x.floodIn(81));
+        dueThrow(NO_ELEMENT, () -> x.floodIn(-1));
+        dueThrow(NO_ELEMENT, () -> x.floodIn(0));
+        promise = 15;
+        due(2, () -> x.before(Integer.MAX_VALUE));
+        due(2, () -> x.before(91));
+        due(0, () -> x.before(90));
+        due(1, () -> x.before(80));
+        due(1, () -> x.before(61));
+        dueThrow(NO_ELEMENT, () -> x.before(60));
+        dueThrow(NO_ELEMENT, () -> x.before(Integer.MIN_VALUE));
+        dueThrow(NO_ELEMENT, () -> new FloodStones().before(100));
+        dueThrow(NO_ELEMENT, () -> new FloodStones().floodIn(0));
+    }
+
+    private static void promise16() {
+        promise = 16;
+        FloodStones x = river();
+        due(20, () -> x.edge(0));
+        x.cut(1, 0, 0);
+        due(15, () -> x.edge(0));
+        due(20, () -> x.edge(1));
+        dueThrow(OUT_OF_BOUNDS, () -> x.edge(2));
+        dueThrow(OUT_OF_BOUNDS, () -> x.edge(-1));
+    }
+
+    private static void promise17() {
+        promise = 17;
+        FloodStones x = river();
+        x.epoch(100, 2);
+        x.cut(0, 0, 0);
+        due(42, () -> x.markOf(0, 0, 0));
+        due(11, () -> x.markOf(0, 0, 1));
+        due(100, () -> x.markOf(0, 0, 2));
+        due(40, () -> x.markOf(0, 0, 3));
+        due(55, () -> x.markOf(0, 0, 4));
+        x.years(4);
+        due(51, () -> x.markOf(0, 0, 4));
+        x.years(1);
+        due(50, () -> x.markOf(0, 0, 4));
+        x.years(50);
+        dueThrow(NO_ELEMENT, () -> x.markOf(0, 0, 4));
+        dueThrow(NO_ELEMENT, () -> x.markOf(0, 1, 0));
+        dueThrow(BAD_ARGUMENT, () -> x.markOf(0, 1, 5));
+        dueThrow(BAD_ARGUMENT, () -> x.markOf(0, 1, -1));
+        dueThrow(OUT_OF_BOUNDS, () -> x.markOf(0, 3, 5));
+        dueThrow(OUT_OF_BOUNDS, () -> x.markOf(2, 0, 5));
+        dueThrow(OUT_OF_BOUNDS, () -> x.markOf(-1, 0, 0));
+        dueThrow(OUT_OF_BOUNDS, () -> x.markOf(0, -1, 0));
+    }
+
+    private static void promise18() {
+        promise = 18;
+        FloodStones x = river();
+        dueThrow(NO_ELEMENT, () -> x.mark(0, 0));
+        x.cut(0, 0, 0);
+        x.cut(0, 1, 0);
+        x.cut(0, 2, 0);
+        due(1, () -> x.mark(0, 0));
+        due(0, () -> x.mark(0, 1));
+        due(2, () -> x.mark(0, 2));
+        dueThrow(NO_ELEMENT, () -> x.mark(0, 3));
+        dueThrow(NO_ELEMENT, () -> x.mark(0, -1));
+        dueThrow(NO_ELEMENT, () -> x.mark(1, 0));
+        dueThrow(OUT_OF_BOUNDS, () -> x.mark(2, 0));
+        dueThrow(OUT_OF_BOUNDS, () -> x.mark(-1, 0));
+    }
+
+    private static void promise19And20() {
+        promise = 19;
+        FloodStones x = new FloodStones();
+        x.stone(49, 30, 1);
+        x.flood(1, 1, 0);
+        x.flood(2, 99, 0);
+        due(-38, () -> x.level(0, 0));
+        due(60, () -> x.level(0, 1));
+        dueThrow(OUT_OF_BOUNDS, () -> x.level(1, 0));
+        dueThrow(OUT_OF_BOUNDS, () -> x.level(0, 2));
+        dueThrow(OUT_OF_BOUNDS, () -> x.level(-1, 0));
+        dueThrow(OUT_OF_BOUNDS, () -> x.level(0, -1));
+        promise = 20;
+        due(60, () -> x.reads(0, 1));
+        x.epoch(103, -9);
+        x.years(2);
+        due(61, () -> x.reads(0, 1));
+        x.years(1);
+        due(52, () -> x.reads(0, 1));
+        due(-46, () -> x.reads(0, 0));
+        dueThrow(OUT_OF_BOUNDS, () -> x.reads(1, 0));
+        dueThrow(OUT_OF_BOUNDS, () -> x.reads(0, 2));
+        dueThrow(OUT_OF_BOUNDS, () -> x.reads(-1, 0));
+        dueThrow(OUT_OF_BOUNDS, () -> x.reads(0, -1));
+    }
+
+    private static void promise21() {
+        promise = 21;
+        FloodStones x = new FloodStones();
+        due(0, () -> x.shift(0));
+        x.epoch(500, 7);
+        x.epoch(0, 1);
+        x.epoch(200, -3);
+        due(1, () -> x.shift(0));
+        due(1, () -> x.shift(199));
+        due(-3, () -> x.shift(200));
+        due(-3, () -> x.shift(499));
+        due(7, () -> x.shift(500));
+        due(7, () -> x.shift(999));
+        dueThrow(BAD_ARGUMENT, () -> x.shift(-1));
+        dueThrow(BAD_ARGUMENT, () -> x.shift(1000));
+    }
+
+    private static void promise22() {
+        promise = 22;
+        FloodStones x = river();
+        due(0, () -> x.errorIn(0, 0));
+        due(0, () -> x.errorIn(0, 1));
+        due(1, () -> x.errorIn(0, 2));
+        due(1, () -> x.errorIn(0, 4));
+        due(2, () -> x.errorIn(0, 5));
+        due(8, () -> x.errorIn(0, 25));
+        due(9, () -> x.errorIn(0, 26));
+        due(9, () -> x.errorIn(0, 60));
+        x.years(3);
+        due(1, () -> x.errorIn(0, 0));
+        due(1, () -> x.errorIn(0, 1));
+        due(2, () -> x.errorIn(0, 2));
+        due(103, () -> x.account(0));
+        dueThrow(OUT_OF_BOUNDS, () -> x.errorIn(2, 99));
+        dueThrow(OUT_OF_BOUNDS, () -> x.errorIn(-1, 0));
+        dueThrow(BAD_ARGUMENT, () -> x.errorIn(0, -1));
+        dueThrow(BAD_ARGUMENT, () -> x.errorIn(0, 61));
+    }
+
+    private static void promise23() {
+        promise = 23;
+        FloodStones x = doubtful();
+        due(0, () -> x.rises(0) ? 1 : 0);
+        x.efface(0, 1);
+        due(1, () -> x.rises(0) ? 1 : 0);
+        x.epoch(101, 1);
+        due(0, () -> x.rises(0) ? 1 : 0);
+        dueThrow(OUT_OF_BOUNDS, () -> x.rises(1) ? 1 : 0);
+        dueThrow(OUT_OF_BOUNDS, () -> x.rises(-1) ? 1 : 0);
+    }
+
+    private static void promise24() {
+        promise = 24;
+        FloodStones x = new FloodStones();
+        dueThrow(NO_ELEMENT, () -> x.ranked(0));
+        x.flood(50, 20, 2);
+        x.flood(40, 20, 2);
+        x.flood(30, 10, 2);
+        x.flood(20, 30, 2);
+        x.flood(10, 1, 3);
+        int[] want = {4, 3, 1, 0, 2};
+        for (int rank = 0; rank < want.length; rank++) {
+            int asked = rank;
+            due(want[asked], () -> x.ranked(asked));
+        }
+        dueThrow(NO_ELEMENT, () -> x.ranked(5));
+        dueThrow(NO_ELEMENT, () -> x.ranked(-1));
+        FloodStones y = doubtful();
+        y.witness(1, 2);
+        due(0, () -> y.ranked(0));
+        y.witness(1, 1);
+        due(1, () -> y.ranked(0));
+    }
+
+    private static void promise25And26() {
+        FloodStones x = doubtful();
+        promise = 25;
+        due(0, () -> new FloodStones().doubts());
+        due(1, x::doubts);
+        promise = 26;
+        due(0, () -> new FloodStones().doubtsAgain());
+        due(1, x::doubtsAgain);
+        x.epoch(101, 2);
+        x.stone(0, 0, 1);
+        x.cut(1, 1, 0);
+        x.epoch(101, 9);
+        x.cut(1, 2, 0);
+        promise = 25;
+        due(4, x::doubts);
+        promise = 26;
+        due(4, x::doubtsAgain);
+    }
+
+    private static void promise27() {
+        promise = 27;
+        FloodStones x = new FloodStones();
+        for (int i = 1; i <= 60; i++) {
+            due(i, () -> x.append('y'));
+        }
+        dueThrow(BAD_STATE, () -> x.append('1'));
+        due(60, () -> x.account(11));
+        dueThrow(BAD_ARGUMENT, x::commands);
+        due(1, x::faultPosition);
+        due(1, () -> x.append((char) 65535));
+        dueThrow(BAD_ARGUMENT, x::commands);
+        due(0, x::faultPosition);
+    }
+
+    private static void promise28() {
+        promise = 28;
+        FloodStones x = river();
+        dueCommands(x, "m0:0/0;m0:01/1;k1;s0;w2+9;y02;x0:00", 7);
+        due(102, () -> x.account(0));
+        due(1, () -> x.account(5));
+        due(20, () -> x.edge(0));
+        due(19, () -> x.edge(1));
+        due(10, () -> x.floodOf(2, 2));
+        due(7, x::undo);
+        due(100, () -> x.account(0));
+        due(0, () -> x.account(6));
+        due(0, () -> x.account(7));
+        due(1, () -> x.floodOf(2, 2));
+        dueRefusedCommand(x, "m0:0/0;m0:0/0", 5, 40, 1);
+        due(0, () -> x.account(5));
+        due(20, () -> x.edge(0));
+        due(7, () -> x.account(10));
+        dueRefusedCommand(x, "y1;y60;y61", 1, 0, 2);
+        due(100, () -> x.account(0));
+        dueRefusedCommand(x, "m9:99/9", 3, 9, 0);
+        dueRefusedCommand(x, "k0;x0:99", 3, 99, 1);
+        dueRefusedCommand(x, "x1:2", 10, 2, 0);
+        dueRefusedCommand(x, "k2", 3, 2, 0);
+        dueRefusedCommand(x, "s2", 3, 2, 0);
+        dueRefusedCommand(x, "w0+0", 1, 0, 0);
+        dueRefusedCommand(x, "w12+0", 3, 12, 0);
+        dueCommands(x, "y1;y1;y1;y1;y1;y1;y1;y1;y1;y1;y1;y1;y1;y1;y1;y1;y1;y1;y1;y1", 20);
+        due(120, () -> x.account(0));
+        dueThrow(REFUSED, () -> x.stone(-1, 0, 0));
+        due(0, () -> x.reason(2));
+    }
+
+    private static void promise29() {
+        promise = 29;
+        FloodStones x = river();
+        dueFault(x, "", 0);
+        dueFault(x, "q", 0);
+        dueFault(x, ";", 0);
+        dueFault(x, "M0:0/0", 0);
+        dueFault(x, "m", 1);
+        dueFault(x, "m:", 1);
+        dueFault(x, "m00", 2);
+        dueFault(x, "m0:/", 3);
+        dueFault(x, "m0:123", 5);
+        dueFault(x, "m0:12", 5);
+        dueFault(x, "m0:1/", 5);
+        dueFault(x, "m0:1/00", 6);
+        dueFault(x, "x0:1/0", 4);
+        dueFault(x, "x0:111", 5);
+        dueFault(x, "k", 1);
+        dueFault(x, "k00", 2);
+        dueFault(x, "s1 ", 2);
+        dueFault(x, "w1", 2);
+        dueFault(x, "w1+", 3);
+        dueFault(x, "w01+99", 5);
+        dueFault(x, "w+1", 1);
+        dueFault(x, "y", 1);
+        dueFault(x, "y-1", 1);
+        dueFault(x, "y100", 3);
+        dueFault(x, "y1;", 3);
+        dueFault(x, "y1;;", 3);
+        dueFault(x, "y1,y1", 2);
+        dueFault(x, "y/", 1);
+        dueFault(x, "y:", 1);
+        dueFault(x, "y1;y1;y1;y1;y1;y1;y1;y1;y1;y1;y1;y1;y1;y1;y1;y1;y1;y1;y01;w1", 60);
+        due(100, () -> x.account(0));
+        dueCommands(x, "y1", 1);
+        dueFault(x, "y1;k", 4);
+        due(101, () -> x.account(0));
+        x.undo();
+        due(4, x::faultPosition);
+        dueThrow(NO_ELEMENT, () -> x.reason(0));
+    }
+
+    private static void promise30() {
+        promise = 30;
+        FloodStones x = new FloodStones();
+        dueThrow(BAD_ARGUMENT, () -> x.reason(-1));
+        dueThrow(BAD_ARGUMENT, () -> x.reason(3));
+        dueThrow(NO_ELEMENT, () -> x.reason(0));
+        dueThrow(NO_ELEMENT, () -> x.reason(2));
+        dueRefusedCommand(x, "y1;s7", 3, 7, 1);
+        x.chisel();
+        x.save();
+        x.undo();
+        x.restore();
+        due(3, () -> x.reason(0));
+        due(7, () -> x.reason(1));
+        due(1, () -> x.reason(2));
+        dueThrow(BAD_ARGUMENT, () -> x.reason(3));
+        dueThrow(REFUSED, () -> x.years(0));
+        due(1, () -> x.reason(0));
+        due(0, () -> x.reason(1));
+        due(0, () -> x.reason(2));
+    }
+
+    private static void promise31And32() {
+        promise = 31;
+        FloodStones x = river();
+        dueLine(x, 1, "1:");
+        x.cut(0, 0, 0);
+        x.cut(0, 2, 0);
+        x.cut(0, 1, 0);
+        dueLine(x, 0, "0: 20=60 40=80 60=90");
+        dueThrow(OUT_OF_BOUNDS, () -> x.line(2));
+        dueThrow(OUT_OF_BOUNDS, () -> x.line(-1));
+        promise = 32;
+        due('0', () -> x.character(0));
+        x.efface(0, 0);
+        due('0', () -> x.character(19));
+        dueThrow(OUT_OF_BOUNDS, () -> x.character(20));
+        dueThrow(OUT_OF_BOUNDS, () -> x.character(-1));
+        dueLine(x, 0, "0: 20=60 60=90");
+        x.flood(0, 3, 0);
+        x.cut(0, 3, 0);
+        x.years(60);
+        x.flood(160, 50, 0);
+        x.cut(0, 4, 0);
+        dueLine(x, 0, "0: 59=160");
+        x.undo();
+        due('=', () -> x.character(5));
+    }
+
+    private static void promise33() {
+        promise = 33;
+        FloodStones x = river();
+        dueThrow(ARITHMETIC, () -> x.estimate(0));
+        dueThrow(OUT_OF_BOUNDS, () -> x.estimate(3));
+        dueThrow(OUT_OF_BOUNDS, () -> x.estimate(-1));
+        x.cut(0, 0, 0);
+        due(40, () -> x.estimate(0));
+        x.years(3);
+        x.cut(1, 0, 1);
+        due(40.5, () -> x.estimate(0));
+        x.stone(0, 0, 1);
+        x.cut(2, 0, 0);
+        due(121.0 / 3.0, () -> x.estimate(0));
+        x.epoch(103, 3);
+        due(115.0 / 3.0, () -> x.estimate(0));
+    }
+
+    private static void promise34() {
+        promise = 34;
+        FloodStones x = river();
+        due(20, x::meanEdge);
+        x.cut(1, 0, 0);
+        due(17.5, x::meanEdge);
+        x.chisel();
+        due(55.0f / 3.0f, x::meanEdge);
+        dueThrow(ARITHMETIC, () -> new FloodStones().meanEdge());
+    }
+
+    private static void promise35() {
+        promise = 35;
+        FloodStones x = river();
+        x.epoch(0, 0);
+        x.cut(0, 0, 0);
+        x.cut(0, 1, 0);
+        x.cut(1, 2, 0);
+        x.efface(0, 1);
+        x.years(45);
+        x.cut(1, 0, 1);
+        x.years(10);
+        x.cut(1, 1, 1);
+        x.append('y');
+        int[] want = {155, 2, 3, 1, 2, 2, 5, 1, 2, 0, 8, 1};
+        for (int what = 0; what < want.length; what++) {
+            int asked = what;
+            due(want[asked], () -> x.account(asked));
+        }
+        dueThrow(BAD_ARGUMENT, () -> x.account(12));
+        dueThrow(BAD_ARGUMENT, () -> x.account(-1));
+        due(1, () -> doubtful().account(9));
+    }
+
+    private static void promise36() {
+        promise = 36;
+        FloodStones x = new FloodStones();
+        dueThrow(BAD_STATE, x::undo);
+        for (int i = 0; i < 6; i++) {
+            x.stone(0, 0, 1);
+        }
+        x.chisel();
+        x.flood(0, 5, 0);
+        x.epoch(7, 7);
+        x.cut(0, 0, 0);
+        x.witness(0, 1);
+        due(8, () -> x.account(10));
+        x.append('k');
+        dueThrow(BAD_ARGUMENT, () -> x.account(99));
+        due(7, x::undo);
+        due(0, () -> x.floodOf(0, 2));
+        due(6, x::undo);
+        due(0, () -> x.account(6));
+        due(20, () -> x.edge(0));
+        due(5, x::undo);
+        due(0, () -> x.account(3));
+        due(4, x::undo);
+        dueThrow(NO_ELEMENT, () -> x.floodIn(0));
+        due(3, x::undo);
+        due(2, x::undo);
+        due(5, () -> x.account(1));
+        due(1, x::undo);
+        due(0, x::undo);
+        dueThrow(BAD_STATE, x::undo);
+        due(3, () -> x.account(1));
+        due(1, () -> x.account(11));
+        x.years(60);
+        x.check(0);
+        x.chisel();
+        x.sharpen(0);
+        due(3, x::undo);
+        due(2, x::undo);
+        due(1, x::undo);
+        due(9, () -> x.stoneOf(0, 3));
+        due(0, x::undo);
+        due(100, () -> x.account(0));
+    }
+
+    private static void promise37And38() {
+        promise = 37;
+        FloodStones x = river();
+        x.cut(0, 0, 0);
+        due(100, x::save);
+        x.efface(0, 0);
+        x.years(60);
+        promise = 38;
+        due(100, x::restore);
+        due(0, () -> x.account(10));
+        dueThrow(BAD_STATE, x::undo);
+        due(1, () -> x.account(5));
+        due(0, () -> x.account(7));
+        due(0, () -> x.stoneOf(0, 3));
+        x.years(5);
+        due(105, x::save);
+        x.append('y');
+        due(0, x::undo);
+        due(100, () -> x.account(0));
+        due(105, x::restore);
+        due(105, x::restore);
+        due(1, () -> x.account(11));
+        dueThrow(BAD_STATE, () -> new FloodStones().restore());
+    }
+
+    public static void main(String[] args) {
+        promise1();
+        promise2();
+        promise3();
+        promise4();
+        promise5();
+        promise6();
+        promise6Reach();
+        promise6Blunt();
+        promise7();
+        promise8();
+        promise9();
+        promise10();
+        promise11();
+        promise12();
+        promise13();
+        promise14And15();
+        promise16();
+        promise17();
+        promise18();
+        promise19And20();
+        promise21();
+        promise22();
+        promise23();
+        promise24();
+        promise25And26();
+        promise27();
+        promise28();
+        promise29();
+        promise30();
+        promise31And32();
+        promise33();
+        promise34();
+        promise35();
+        promise36();
+        promise37And38();
+        System.out.println(checked + " answers looked at, " + wrong + " of them wrong");
+        if (wrong != 0) {
+            System.exit(1);
+        }
+    }
+}
