@@ -14,6 +14,8 @@ public final class FloodStones {
     private final Text text = new Text();
     private int latestFault = -1;
     private final StringBuilder written = new StringBuilder();
+    /** Room for the credits of the floods while they are ranked. */
+    private final int[] credits = new int[Floods.MOST];
 
     public FloodStones() {
     }
@@ -221,7 +223,7 @@ public final class FloodStones {
     }
 
     public int ranked(int rank) throws NoSuchElementException {
-        int found = now.floodAtRank(rank);
+        int found = now.floodAtRank(rank, credits);
         if (found < 0) {
             throw new NoSuchElementException("no such rank");
         }
@@ -674,7 +676,7 @@ public final class FloodStones {
         }
 
         boolean has(int stone, int flood) {
-            return depthAt(stone, flood) > 0;
+            return Rows.at(depth, cell(stone, flood)) > 0;
         }
 
         int heightAt(int stone, int flood) {
@@ -1005,12 +1007,15 @@ public final class FloodStones {
             return Math.max(0, 10 * Rows.at(floods.witnesses, flood) - 5 * doubtsOfFlood(flood));
         }
 
-        /** The flood with so many others ahead of it by credit, or -1. */
-        int floodAtRank(int rank) {
+        /** The flood with so many others ahead of it by credit, or -1; puts the credits into the row. */
+        int floodAtRank(int rank, int[] credits) {
+            for (int flood = 0; flood < floods.count; flood++) {
+                Rows.set(credits, flood, creditOf(flood));
+            }
             for (int flood = 0; flood < floods.count; flood++) {
                 int ahead = 0;
                 for (int other = 0; other < floods.count; other++) {
-                    ahead += isAhead(other, flood) ? 1 : 0;
+                    ahead += isAhead(other, flood, credits) ? 1 : 0;
                 }
                 if (ahead == rank) {
                     return flood;
@@ -1019,14 +1024,14 @@ public final class FloodStones {
             return -1;
         }
 
-        private boolean isAhead(int flood, int other) {
-            int byCredit = Integer.compare(creditOf(flood), creditOf(other));
-            if (byCredit != 0) {
-                return byCredit > 0;
+        private boolean isAhead(int flood, int other, int[] credits) {
+            int moreCredit = Rows.at(credits, flood) - Rows.at(credits, other);
+            if (moreCredit != 0) {
+                return moreCredit > 0;
             }
-            int byCrest = Integer.compare(Rows.at(floods.crest, flood), Rows.at(floods.crest, other));
-            if (byCrest != 0) {
-                return byCrest > 0;
+            int moreCrest = Rows.at(floods.crest, flood) - Rows.at(floods.crest, other);
+            if (moreCrest != 0) {
+                return moreCrest > 0;
             }
             return Rows.at(floods.year, flood) < Rows.at(floods.year, other);
         }
@@ -1175,15 +1180,16 @@ public final class FloodStones {
             int filled = command * MOST_NUMBERS;
             for (int part = 0; part < form.length(); part++) {
                 char due = form.charAt(part);
-                boolean isNumber = due == SHORT || due == LONG;
-                if (isNumber ? !isDigit(signHere()) : signHere() != due) {
-                    return false;
-                }
-                if (isNumber) {
+                if (due == SHORT || due == LONG) {
+                    if (!isDigit(signHere())) {
+                        return false;
+                    }
                     Rows.set(numbers, filled, readNumber(due == LONG));
                     filled++;
-                } else {
+                } else if (signHere() == due) {
                     position++;
+                } else {
+                    return false;
                 }
             }
             return true;
@@ -1195,13 +1201,17 @@ public final class FloodStones {
 
         /** Reads a number at a digit, and a second digit if it may have one. */
         private int readNumber(boolean isLong) {
-            int number = signHere() - '0';
-            position++;
+            int number = readDigit();
             if (isLong && isDigit(signHere())) {
-                number = 10 * number + signHere() - '0';
-                position++;
+                number = 10 * number + readDigit();
             }
             return number;
+        }
+
+        private int readDigit() {
+            int digit = signHere() - '0';
+            position++;
+            return digit;
         }
     }
 }
