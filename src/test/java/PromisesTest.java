@@ -176,6 +176,7 @@ public final class PromisesTest {
         due(0, () -> x.flood(0, 99, 99));
         due(1, () -> x.flood(100, 1, 0));
         dueRefusal(x, 4, 1, () -> x.flood(100, 5, 5));
+        dueRefusal(x, 4, 0, () -> x.flood(0, 5, 5));
         dueRefusal(x, 1, 0, () -> x.flood(100, 0, 5));
         x.years(1);
         due(2, () -> x.flood(101, 1, 0));
@@ -204,6 +205,8 @@ public final class PromisesTest {
         dueRefusal(x, 2, 4, () -> x.epoch(51, 3));
         dueRefusal(x, 1, 0, () -> x.epoch(51, 99));
         due(4, () -> x.epoch(50, 5));
+        due(4, () -> x.epoch(999, 8));
+        due(8, () -> x.shift(999));
         due(5, () -> x.shift(50));
         due(-8, () -> x.shift(49));
         due(4, () -> x.account(3));
@@ -301,6 +304,11 @@ public final class PromisesTest {
         due(2, () -> x.account(6));
         due(1, () -> x.account(7));
         due(0, () -> x.account(8));
+        due(8, () -> x.account(10));
+        x.undo();
+        due(0, () -> x.account(7));
+        due(60, () -> x.markOf(0, 2, 0));
+        due(60, () -> x.efface(0, 2));
         due(60, () -> x.cut(0, 2, 0));
     }
 
@@ -568,6 +576,12 @@ public final class PromisesTest {
         due(1, () -> x.errorIn(0, 1));
         due(2, () -> x.errorIn(0, 2));
         due(103, () -> x.account(0));
+        x.years(1);
+        due(1, () -> x.errorIn(0, 0));
+        due(2, () -> x.errorIn(0, 1));
+        x.years(1);
+        due(2, () -> x.errorIn(0, 0));
+        due(2, () -> x.errorIn(0, 2));
         dueThrow(OUT_OF_BOUNDS, () -> x.errorIn(2, 99));
         dueThrow(OUT_OF_BOUNDS, () -> x.errorIn(-1, 0));
         dueThrow(BAD_ARGUMENT, () -> x.errorIn(0, -1));
@@ -626,6 +640,8 @@ public final class PromisesTest {
         due(4, x::doubts);
         promise = 26;
         due(4, x::doubtsAgain);
+        promise = 35;
+        due(2, () -> x.account(9));
     }
 
     private static void promise27() {
@@ -674,6 +690,30 @@ public final class PromisesTest {
         due(120, () -> x.account(0));
         dueThrow(REFUSED, () -> x.stone(-1, 0, 0));
         due(0, () -> x.reason(2));
+    }
+
+    /** Each number of a command goes where it belongs. */
+    private static void promise28Numbers() {
+        promise = 28;
+        FloodStones x = river();
+        x.chisel();
+        x.years(3);
+        dueCommands(x, "m1:2/2;m0:0/1;k1;x1:2", 4);
+        due(20, () -> x.edge(0));
+        due(19, () -> x.edge(1));
+        due(15, () -> x.edge(2));
+        due(0, () -> x.stoneOf(1, 3));
+        due(1, () -> x.stoneOf(0, 3));
+        dueThrow(NO_ELEMENT, () -> x.markOf(1, 2, 0));
+        due(41, () -> x.markOf(0, 0, 0));
+        dueCommands(x, "s2;y10;w01+7", 3);
+        due(20, () -> x.edge(2));
+        due(113, () -> x.account(0));
+        due(7, () -> x.floodOf(1, 2));
+        due(3, () -> x.floodOf(0, 2));
+        dueRefusedCommand(x, "m1:1/1;m0:2/3", 3, 3, 1);
+        due(19, () -> x.edge(1));
+        due(3, () -> x.account(4));
     }
 
     private static void promise29() {
@@ -863,6 +903,56 @@ public final class PromisesTest {
         due(100, () -> x.account(0));
     }
 
+    /** All numbers of a river with one stone, one flood, a mark, an epoch and a chisel. */
+    private static void dueNumbers(FloodStones x, double... want) {
+        double[] got = {x.stoneOf(0, 0), x.stoneOf(0, 1), x.stoneOf(0, 2), x.stoneOf(0, 3),
+            x.floodOf(0, 0), x.floodOf(0, 1), x.floodOf(0, 2), x.markOf(0, 0, 0), x.markOf(0, 0, 1),
+            x.markOf(0, 0, 2), x.shift(89), x.shift(90), x.shift(999), x.edge(0), x.account(0), x.account(4),
+            x.account(6), x.account(7), x.account(8)};
+        due(want.length, () -> got.length);
+        for (int i = 0; i < Math.min(want.length, got.length); i++) {
+            int asked = i;
+            due(want[asked], () -> got[asked]);
+        }
+    }
+
+    /** What was saved comes back whole, in place of another river with as many things of other numbers. */
+    private static void promise38Whole() {
+        promise = 38;
+        FloodStones x = new FloodStones();
+        x.stone(11, 4, 2);
+        x.flood(70, 50, 6);
+        x.epoch(90, 5);
+        x.chisel();
+        type(x, "m0:0/0;y60;s0;m0:0/0;x0:0;y1;m0:0/0;y9");
+        due(8, x::commands);
+        double[] first = {11, 4, 2, 9, 70, 50, 6, 58, 8, 161, 0, 5, 5, 16, 170, 1, 3, 1, 1};
+        dueNumbers(x, first);
+        due(170, x::save);
+        for (int left = 4; left >= 0; left--) {
+            due(left, x::undo);
+        }
+        due(0, () -> x.account(1));
+        due(0, () -> x.account(2));
+        x.stone(30, 1, 3);
+        x.flood(20, 90, 1);
+        x.epoch(80, -6);
+        x.chisel();
+        x.chisel();
+        x.years(3);
+        x.cut(0, 0, 0);
+        dueNumbers(x, 30, 1, 3, 1, 20, 90, 1, 78, 11, 103, -6, -6, -6, 17, 103, 2, 1, 0, 0);
+        due(170, x::restore);
+        dueNumbers(x, first);
+        x.epoch(90, 1);
+        x.years(50);
+        x.witness(0, 1);
+        for (int left = 2; left >= 0; left--) {
+            due(left, x::undo);
+        }
+        dueNumbers(x, first);
+    }
+
     private static void promise37And38() {
         promise = 37;
         FloodStones x = river();
@@ -916,6 +1006,7 @@ public final class PromisesTest {
         promise25And26();
         promise27();
         promise28();
+        promise28Numbers();
         promise29();
         promise30();
         promise31And32();
@@ -924,6 +1015,7 @@ public final class PromisesTest {
         promise35();
         promise36();
         promise37And38();
+        promise38Whole();
         System.out.println(checked + " answers looked at, " + wrong + " of them wrong");
         if (wrong != 0) {
             System.exit(1);
