@@ -223,6 +223,9 @@ public final class FloodStones {
     }
 
     public int ranked(int rank) throws NoSuchElementException {
+        for (int flood = 0; flood < now.floods.count; flood++) {
+            Rows.set(credits, flood, now.creditOf(flood));
+        }
         int found = now.floodAtRank(rank, credits);
         if (found < 0) {
             throw new NoSuchElementException("no such rank");
@@ -1007,11 +1010,8 @@ public final class FloodStones {
             return Math.max(0, 10 * Rows.at(floods.witnesses, flood) - 5 * doubtsOfFlood(flood));
         }
 
-        /** The flood with so many others ahead of it by credit, or -1; puts the credits into the row. */
+        /** The flood with so many others ahead of it by the credits in the row, or -1. */
         int floodAtRank(int rank, int[] credits) {
-            for (int flood = 0; flood < floods.count; flood++) {
-                Rows.set(credits, flood, creditOf(flood));
-            }
             for (int flood = 0; flood < floods.count; flood++) {
                 int ahead = 0;
                 for (int other = 0; other < floods.count; other++) {

@@ -307,6 +307,7 @@ public final class PromisesTest {
         due(8, () -> x.account(10));
         x.undo();
         due(0, () -> x.account(7));
+        due(2, () -> x.account(5));
         due(60, () -> x.markOf(0, 2, 0));
         due(60, () -> x.efface(0, 2));
         due(60, () -> x.cut(0, 2, 0));
