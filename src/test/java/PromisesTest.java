@@ -1,117 +1,5 @@
-import java.util.NoSuchElementException;
-
 /** Tests of each promise of ../shared/DOC.md: ordinary inputs, edges and wrong inputs. */
-public final class PromisesTest {
-    private interface Call {
-        double answer();
-    }
-
-    private static final Class<?> REFUSED = UnsupportedOperationException.class;
-    private static final Class<?> OUT_OF_BOUNDS = IndexOutOfBoundsException.class;
-    private static final Class<?> BAD_ARGUMENT = IllegalArgumentException.class;
-    private static final Class<?> NO_ELEMENT = NoSuchElementException.class;
-    private static final Class<?> BAD_STATE = IllegalStateException.class;
-    private static final Class<?> ARITHMETIC = ArithmeticException.class;
-
-    private static int wrong = 0;
-    private static int checked = 0;
-    private static int promise = 0;
-
-    private static void complain(String what) {
-        wrong++;
-        StackTraceElement[] trace = new Throwable().getStackTrace();
-        String where = "";
-        for (StackTraceElement element : trace) {
-            if (element.getMethodName().startsWith("promise")) {
-                where = " (line " + element.getLineNumber() + ")";
-                break;
-            }
-        }
-        System.out.println("promise " + promise + where + ": " + what);
-    }
-
-    private static void due(double want, Call call) {
-        checked++;
-        try {
-            double got = call.answer();
-            if (got != want) {
-                complain("answered " + got + ", due is " + want);
-            }
-        } catch (RuntimeException e) {
-            complain("threw " + e + ", due is " + want);
-        }
-    }
-
-    private static void dueThrow(Class<?> want, Call call) {
-        checked++;
-        try {
-            double got = call.answer();
-            complain("answered " + got + ", due is " + want.getName());
-        } catch (RuntimeException e) {
-            if (e.getClass() != want) {
-                complain("threw " + e + ", due is " + want.getName());
-            }
-        }
-    }
-
-    /** The call is refused for a reason with a detail, and nothing that can be undone is changed by it. */
-    private static void dueRefusal(FloodStones x, int reason, int detail, Call call) {
-        int changes = x.account(10);
-        dueThrow(REFUSED, call);
-        due(reason, () -> x.reason(0));
-        due(detail, () -> x.reason(1));
-        due(0, () -> x.reason(2));
-        due(changes, () -> x.account(10));
-    }
-
-    private static void type(FloodStones x, String text) {
-        for (int i = 0; i < text.length(); i++) {
-            x.append(text.charAt(i));
-        }
-    }
-
-    private static void dueFault(FloodStones x, String text, int position) {
-        type(x, text);
-        dueThrow(BAD_ARGUMENT, x::commands);
-        due(position, x::faultPosition);
-        due(0, () -> x.account(11));
-    }
-
-    private static void dueCommands(FloodStones x, String text, int count) {
-        type(x, text);
-        due(count, x::commands);
-        due(-1, x::faultPosition);
-        due(0, () -> x.account(11));
-    }
-
-    private static void dueRefusedCommand(FloodStones x, String text, int reason, int detail, int index) {
-        type(x, text);
-        dueThrow(REFUSED, x::commands);
-        due(-1, x::faultPosition);
-        due(0, () -> x.account(11));
-        due(reason, () -> x.reason(0));
-        due(detail, () -> x.reason(1));
-        due(index, () -> x.reason(2));
-    }
-
-    private static String lineOf(FloodStones x, int stone) {
-        int length = x.line(stone);
-        StringBuilder text = new StringBuilder();
-        for (int i = 0; i < length; i++) {
-            text.append(x.character(i));
-        }
-        dueThrow(OUT_OF_BOUNDS, () -> x.character(length));
-        return text.toString();
-    }
-
-    private static void dueLine(FloodStones x, int stone, String want) {
-        checked++;
-        String got = lineOf(x, stone);
-        if (!got.equals(want)) {
-            complain("the line is '" + got + "', due is '" + want + "'");
-        }
-    }
-
+public final class PromisesTest extends Checks {
     /** A river with the stones 0 and 1, the floods 0 to 2 and the chisels 0 and 1. */
     private static FloodStones river() {
         FloodStones x = new FloodStones();
@@ -126,7 +14,6 @@ public final class PromisesTest {
     }
 
     private static void promise1() {
-        promise = 1;
         FloodStones x = new FloodStones();
         due(100, () -> x.account(0));
         for (int what = 1; what <= 11; what++) {
@@ -143,7 +30,6 @@ public final class PromisesTest {
     }
 
     private static void promise2() {
-        promise = 2;
         FloodStones x = new FloodStones();
         dueRefusal(x, 1, 0, () -> x.stone(-1, 0, 1));
         dueRefusal(x, 1, 0, () -> x.stone(51, 0, 1));
@@ -165,7 +51,6 @@ public final class PromisesTest {
     }
 
     private static void promise3() {
-        promise = 3;
         FloodStones x = new FloodStones();
         dueRefusal(x, 1, 0, () -> x.flood(-1, 1, 0));
         dueRefusal(x, 1, 0, () -> x.flood(101, 1, 0));
@@ -191,7 +76,6 @@ public final class PromisesTest {
     }
 
     private static void promise4() {
-        promise = 4;
         FloodStones x = new FloodStones();
         dueRefusal(x, 1, 0, () -> x.epoch(-1, 0));
         dueRefusal(x, 1, 0, () -> x.epoch(1000, 0));
@@ -213,7 +97,6 @@ public final class PromisesTest {
     }
 
     private static void promise5() {
-        promise = 5;
         FloodStones x = new FloodStones();
         due(0, x::chisel);
         due(1, x::chisel);
@@ -224,7 +107,6 @@ public final class PromisesTest {
     }
 
     private static void promise6() {
-        promise = 6;
         FloodStones x = river();
         dueRefusal(x, 3, -1, () -> x.cut(-1, 9, 9));
         dueRefusal(x, 3, 2, () -> x.cut(2, 9, 9));
@@ -242,7 +124,6 @@ public final class PromisesTest {
     }
 
     private static void promise6Reach() {
-        promise = 6;
         FloodStones x = new FloodStones();
         x.stone(50, 30, 1);
         x.chisel();
@@ -264,7 +145,6 @@ public final class PromisesTest {
     }
 
     private static void promise6Blunt() {
-        promise = 6;
         FloodStones x = new FloodStones();
         x.stone(0, 0, 4);
         x.stone(0, 0, 5);
@@ -291,7 +171,6 @@ public final class PromisesTest {
     }
 
     private static void promise7() {
-        promise = 7;
         FloodStones x = river();
         dueRefusal(x, 3, 2, () -> x.efface(2, 9));
         dueRefusal(x, 3, -7, () -> x.efface(0, -7));
@@ -314,7 +193,6 @@ public final class PromisesTest {
     }
 
     private static void promise8() {
-        promise = 8;
         FloodStones x = river();
         dueRefusal(x, 3, 2, () -> x.sharpen(2));
         dueRefusal(x, 3, -1, () -> x.sharpen(-1));
@@ -329,7 +207,6 @@ public final class PromisesTest {
     }
 
     private static void promise9() {
-        promise = 9;
         FloodStones x = river();
         dueRefusal(x, 3, 2, () -> x.check(2));
         dueRefusal(x, 3, -1, () -> x.check(-1));
@@ -341,7 +218,6 @@ public final class PromisesTest {
     }
 
     private static void promise10() {
-        promise = 10;
         FloodStones x = river();
         dueRefusal(x, 3, 3, () -> x.witness(3, 0));
         dueRefusal(x, 3, -1, () -> x.witness(-1, 1));
@@ -358,7 +234,6 @@ public final class PromisesTest {
     }
 
     private static void promise11() {
-        promise = 11;
         FloodStones x = river();
         dueRefusal(x, 1, 0, () -> x.years(0));
         dueRefusal(x, 1, 0, () -> x.years(-1));
@@ -387,7 +262,6 @@ public final class PromisesTest {
     }
 
     private static void promise12() {
-        promise = 12;
         FloodStones x = river();
         dueThrow(OUT_OF_BOUNDS, () -> x.stoneOf(2, 9));
         dueThrow(OUT_OF_BOUNDS, () -> x.stoneOf(-1, 0));
@@ -421,7 +295,6 @@ public final class PromisesTest {
     }
 
     private static void promise13() {
-        promise = 13;
         FloodStones x = doubtful();
         dueThrow(OUT_OF_BOUNDS, () -> x.floodOf(3, 9));
         dueThrow(OUT_OF_BOUNDS, () -> x.floodOf(-1, 0));
@@ -446,14 +319,12 @@ public final class PromisesTest {
     }
 
     private static void promise14And15() {
-        promise = 14;
         FloodStones x = river();
         due(0, () -> x.floodIn(80));
         due(1, () -> x.floodIn(60));
         dueThrow(NO_ELEMENT, () -> x.floodIn(81));
         dueThrow(NO_ELEMENT, () -> x.floodIn(-1));
         dueThrow(NO_ELEMENT, () -> x.floodIn(0));
-        promise = 15;
         due(2, () -> x.before(Integer.MAX_VALUE));
         due(2, () -> x.before(91));
         due(0, () -> x.before(90));
@@ -466,7 +337,6 @@ public final class PromisesTest {
     }
 
     private static void promise16() {
-        promise = 16;
         FloodStones x = river();
         due(20, () -> x.edge(0));
         x.cut(1, 0, 0);
@@ -477,7 +347,6 @@ public final class PromisesTest {
     }
 
     private static void promise17() {
-        promise = 17;
         FloodStones x = river();
         x.epoch(100, 2);
         x.cut(0, 0, 0);
@@ -502,7 +371,6 @@ public final class PromisesTest {
     }
 
     private static void promise18() {
-        promise = 18;
         FloodStones x = river();
         dueThrow(NO_ELEMENT, () -> x.mark(0, 0));
         x.cut(0, 0, 0);
@@ -519,7 +387,6 @@ public final class PromisesTest {
     }
 
     private static void promise19And20() {
-        promise = 19;
         FloodStones x = new FloodStones();
         x.stone(49, 30, 1);
         x.flood(1, 1, 0);
@@ -530,7 +397,6 @@ public final class PromisesTest {
         dueThrow(OUT_OF_BOUNDS, () -> x.level(0, 2));
         dueThrow(OUT_OF_BOUNDS, () -> x.level(-1, 0));
         dueThrow(OUT_OF_BOUNDS, () -> x.level(0, -1));
-        promise = 20;
         due(60, () -> x.reads(0, 1));
         x.epoch(103, -9);
         x.years(2);
@@ -545,7 +411,6 @@ public final class PromisesTest {
     }
 
     private static void promise21() {
-        promise = 21;
         FloodStones x = new FloodStones();
         due(0, () -> x.shift(0));
         x.epoch(500, 7);
@@ -562,7 +427,6 @@ public final class PromisesTest {
     }
 
     private static void promise22() {
-        promise = 22;
         FloodStones x = river();
         due(0, () -> x.errorIn(0, 0));
         due(0, () -> x.errorIn(0, 1));
@@ -590,7 +454,6 @@ public final class PromisesTest {
     }
 
     private static void promise23() {
-        promise = 23;
         FloodStones x = doubtful();
         due(0, () -> x.rises(0) ? 1 : 0);
         x.efface(0, 1);
@@ -602,7 +465,6 @@ public final class PromisesTest {
     }
 
     private static void promise24() {
-        promise = 24;
         FloodStones x = new FloodStones();
         dueThrow(NO_ELEMENT, () -> x.ranked(0));
         x.flood(50, 20, 2);
@@ -626,10 +488,8 @@ public final class PromisesTest {
 
     private static void promise25And26() {
         FloodStones x = doubtful();
-        promise = 25;
         due(0, () -> new FloodStones().doubts());
         due(1, x::doubts);
-        promise = 26;
         due(0, () -> new FloodStones().doubtsAgain());
         due(1, x::doubtsAgain);
         x.epoch(101, 2);
@@ -637,16 +497,12 @@ public final class PromisesTest {
         x.cut(1, 1, 0);
         x.epoch(101, 9);
         x.cut(1, 2, 0);
-        promise = 25;
         due(4, x::doubts);
-        promise = 26;
         due(4, x::doubtsAgain);
-        promise = 35;
         due(2, () -> x.account(9));
     }
 
     private static void promise27() {
-        promise = 27;
         FloodStones x = new FloodStones();
         for (int i = 1; i <= 60; i++) {
             due(i, () -> x.append('y'));
@@ -661,7 +517,6 @@ public final class PromisesTest {
     }
 
     private static void promise28() {
-        promise = 28;
         FloodStones x = river();
         dueCommands(x, "m0:0/0;m0:01/1;k1;s0;w2+9;y02;x0:00", 7);
         due(102, () -> x.account(0));
@@ -695,7 +550,6 @@ public final class PromisesTest {
 
     /** Each number of a command goes where it belongs. */
     private static void promise28Numbers() {
-        promise = 28;
         FloodStones x = river();
         x.chisel();
         x.years(3);
@@ -718,7 +572,6 @@ public final class PromisesTest {
     }
 
     private static void promise29() {
-        promise = 29;
         FloodStones x = river();
         dueFault(x, "", 0);
         dueFault(x, "q", 0);
@@ -760,7 +613,6 @@ public final class PromisesTest {
     }
 
     private static void promise30() {
-        promise = 30;
         FloodStones x = new FloodStones();
         dueThrow(BAD_ARGUMENT, () -> x.reason(-1));
         dueThrow(BAD_ARGUMENT, () -> x.reason(3));
@@ -782,7 +634,6 @@ public final class PromisesTest {
     }
 
     private static void promise31And32() {
-        promise = 31;
         FloodStones x = river();
         dueLine(x, 1, "1:");
         x.cut(0, 0, 0);
@@ -791,7 +642,6 @@ public final class PromisesTest {
         dueLine(x, 0, "0: 20=60 40=80 60=90");
         dueThrow(OUT_OF_BOUNDS, () -> x.line(2));
         dueThrow(OUT_OF_BOUNDS, () -> x.line(-1));
-        promise = 32;
         due('0', () -> x.character(0));
         x.efface(0, 0);
         due('0', () -> x.character(19));
@@ -809,7 +659,6 @@ public final class PromisesTest {
     }
 
     private static void promise33() {
-        promise = 33;
         FloodStones x = river();
         dueThrow(ARITHMETIC, () -> x.estimate(0));
         dueThrow(OUT_OF_BOUNDS, () -> x.estimate(3));
@@ -827,7 +676,6 @@ public final class PromisesTest {
     }
 
     private static void promise34() {
-        promise = 34;
         FloodStones x = river();
         due(20, x::meanEdge);
         x.cut(1, 0, 0);
@@ -838,7 +686,6 @@ public final class PromisesTest {
     }
 
     private static void promise35() {
-        promise = 35;
         FloodStones x = river();
         x.epoch(0, 0);
         x.cut(0, 0, 0);
@@ -861,7 +708,6 @@ public final class PromisesTest {
     }
 
     private static void promise36() {
-        promise = 36;
         FloodStones x = new FloodStones();
         dueThrow(BAD_STATE, x::undo);
         for (int i = 0; i < 6; i++) {
@@ -919,7 +765,6 @@ public final class PromisesTest {
 
     /** What was saved comes back whole, in place of another river with as many things of other numbers. */
     private static void promise38Whole() {
-        promise = 38;
         FloodStones x = new FloodStones();
         x.stone(11, 4, 2);
         x.flood(70, 50, 6);
@@ -955,13 +800,11 @@ public final class PromisesTest {
     }
 
     private static void promise37And38() {
-        promise = 37;
         FloodStones x = river();
         x.cut(0, 0, 0);
         due(100, x::save);
         x.efface(0, 0);
         x.years(60);
-        promise = 38;
         due(100, x::restore);
         due(0, () -> x.account(10));
         dueThrow(BAD_STATE, x::undo);
@@ -1017,9 +860,6 @@ public final class PromisesTest {
         promise36();
         promise37And38();
         promise38Whole();
-        System.out.println(checked + " answers looked at, " + wrong + " of them wrong");
-        if (wrong != 0) {
-            System.exit(1);
-        }
+        report();
     }
 }
