@@ -343,6 +343,39 @@ public final class ChangesTest extends Checks {
                 return x.restore();
             });
         }
+        dueAlike(ChangesTest::saved, ChangesTest::restored, ALL, x -> {
+            otherRiverInPlace(x);
+            return x.restore();
+        });
+        dueAlike(ChangesTest::saved, ChangesTest::restored, ALL, x -> {
+            x.restore();
+            x.years(3);
+            otherRiverInPlace(x);
+            x.restore();
+            otherRiverInPlace(x);
+            return x.restore();
+        });
+    }
+
+    /** Undoes all that can be undone, and sets as many things up as there were, or more, with other numbers. */
+    private static void otherRiverInPlace(FloodStones x) {
+        while (x.account(10) > 0) {
+            x.undo();
+        }
+        for (int stone = x.account(1); stone < 3; stone++) {
+            x.stone(33, 11, 2);
+        }
+        for (int flood = x.account(2); flood < 3; flood++) {
+            x.flood(20 + flood, 77, 66);
+        }
+        for (int chisel = x.account(4); chisel < 3; chisel++) {
+            x.chisel();
+        }
+        x.epoch(89, -5);
+        x.epoch(90, -6);
+        x.years(7);
+        x.cut(1, 2, 2);
+        x.cut(0, 2, 2);
     }
 
     private static FloodStones saved() {

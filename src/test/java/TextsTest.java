@@ -186,29 +186,35 @@ public final class TextsTest extends Checks {
         due(34, () -> x.markOf(4, 0, 0));
     }
 
+    /** A river with a stone, a flood that reaches it, and a chisel. */
+    private static FloodStones small() {
+        FloodStones x = new FloodStones();
+        x.stone(0, 0, 1);
+        x.flood(1, 30, 0);
+        x.chisel();
+        return x;
+    }
+
     /** Texts of just 60 characters, of the most commands, and of one that ends too early at the 60th. */
     private static void longTexts() {
         StringBuilder kinds = new StringBuilder();
         for (int i = 0; i < 18; i++) {
             kinds.append("k0;");
         }
-        FloodStones x = new FloodStones();
-        x.stone(0, 0, 1);
-        x.flood(1, 30, 0);
-        x.chisel();
+        FloodStones x = small();
         dueCommands(x, kinds + "m0:0/0", 19);
         due(30, () -> x.markOf(0, 0, 0));
-        dueCommands(x, kinds + "k0;k0", 20);
-        dueFault(x, kinds + "k0;k0;", 60);
-        dueFault(x, kinds + "m0:00/", 60);
-        dueFault(x, kinds + "m0:0//", 59);
-        dueFault(x, kinds + "w0+1;w", 60);
-        dueFault(x, kinds + "w0+1;z", 59);
-        dueRefusedCommand(x, kinds + "k0;k1", 3, 1, 19);
         dueRefusedCommand(x, kinds + "m0:0/0", 5, 30, 18);
         dueCommands(x, "y60;y60;y60;y60;y60;y60;y60;y60;y60;y60;y60;y60;y60;y60;y60", 15);
         due(1000, () -> x.account(0));
         due(1, () -> x.account(8));
+        dueCommands(small(), kinds + "k0;k0", 20);
+        dueRefusedCommand(small(), kinds + "k0;k1", 3, 1, 19);
+        dueFault(small(), kinds + "k0;k0;", 60);
+        dueFault(small(), kinds + "m0:00/", 60);
+        dueFault(small(), kinds + "m0:0//", 59);
+        dueFault(small(), kinds + "w0+1;w", 60);
+        dueFault(small(), kinds + "w0+1;z", 59);
     }
 
     // faultPosition
